@@ -63,7 +63,7 @@ public final class OwnWays {
     if (text == null) {
       return NO_SUCH;
     }
-    int refusal = text.rowRefusal(BYTES);
+    int refusal = text.sortRefusal(BYTES);
     if (refusal != NO_REFUSAL) {
       return refusal;
     }
@@ -538,10 +538,8 @@ public final class OwnWays {
     if (shelf == null) {
       return NO_SUCH;
     }
-    if (shelf.way == null) {
-      return shelf.isEmpty() ? EMPTY : OTHER_KIND;
-    }
-    return shelf.way.teachingCost();
+    Way way = shelf.way;
+    return way == null ? shelf.wayRefusal() : way.teachingCost();
   }
 
   public int toss(int d) {
@@ -549,10 +547,11 @@ public final class OwnWays {
     if (shelf == null) {
       return NO_SUCH;
     }
-    if (shelf.way == null) {
-      return shelf.isEmpty() ? EMPTY : OTHER_KIND;
+    Way way = shelf.way;
+    if (way == null) {
+      return shelf.wayRefusal();
     }
-    return shelf.way.hasFailure() ? caughtFrom(shelf.way) : NO_FAILURE;
+    return way.hasFailure() ? caughtFrom(way) : NO_FAILURE;
   }
 
   // ---- what the calls share
@@ -631,7 +630,7 @@ public final class OwnWays {
     if (shelf == null) {
       return NO_SUCH;
     }
-    int refusal = shelf.rowRefusal(INTS);
+    int refusal = shelf.sortRefusal(INTS);
     if (refusal != NO_REFUSAL) {
       return refusal;
     }
@@ -655,7 +654,7 @@ public final class OwnWays {
     if (shelf == null) {
       return NO_SUCH;
     }
-    int refusal = shelf.rowRefusal(INTS);
+    int refusal = shelf.sortRefusal(INTS);
     if (refusal != NO_REFUSAL) {
       return refusal;
     }
@@ -1322,9 +1321,14 @@ public final class OwnWays {
       return sort == NO_ROW ? OTHER_KIND : NO_REFUSAL;
     }
 
-    int rowRefusal(int wanted) {
+    int sortRefusal(int wanted) {
       int refusal = rowRefusal();
       return refusal == NO_REFUSAL && sort != wanted ? OTHER_KIND : refusal;
+    }
+
+    /** Why there is no way to be had, where there is none. */
+    int wayRefusal() {
+      return isEmpty() ? EMPTY : OTHER_KIND;
     }
 
     void takeWay(Way taken) {

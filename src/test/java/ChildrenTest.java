@@ -10,6 +10,7 @@ public final class ChildrenTest {
     say();
     bestSaying();
     weeks();
+    drawsAtTheEdge();
     weeksRefusals();
     groups();
     greatest();
@@ -88,6 +89,7 @@ public final class ChildrenTest {
     CHECK.due("P24 child -1", x.say(-1, 0), -1);
     CHECK.due("P24 saying -1", x.say(0, -1), -1);
     CHECK.due("P24 saying 10", x.say(0, 10), -1);
+    CHECK.due("P24 it holds it still", x.child(0, 0), 0);
   }
 
   private static int best(String text) {
@@ -106,10 +108,13 @@ public final class ChildrenTest {
     CHECK.due("P25 worse than none", best("y001;y105;k00;t01;"), -4);
     CHECK.due("P25 one better, one worse", best("y001;y105;k00;k10;t01;t10;"), -4);
     CHECK.due("P25 one step alone", best("y001;y105;y205;k10;t12;t20;"), -4);
+    CHECK.due("P25 all children together", best("y001;y105;k10;k00;t103;"), 3);
     CHECK.due("P25 no children", best("y001;y105;t10;"), -4);
     OwnWays x = Check.classOf("y001;y105;k10;t10;");
     x.row(4, 2, 0);
     CHECK.due("P25 no sums", x.bestSaying(4), -4);
+    Check.ints(x, 4, 42, 17);
+    CHECK.due("P25 one mark, where none was", x.bestSaying(4), 0);
     Check.ints(x, 4, SHEET);
     x.bestSaying(4);
     CHECK.due("P25 they hold what they held", x.child(0, 0), 1);
@@ -133,6 +138,21 @@ public final class ChildrenTest {
       CHECK.due("P26 weeks when told " + i, x.weeks(a[0], a[1], a[2], a[3]), dueWhenTold[i]);
     }
     CHECK.due("P26 still in mind", x.count(4), 2);
+  }
+
+  /** The first draw below 100 by the seed 1 is 38, by the seed 4 it is 17. */
+  private static void drawsAtTheEdge() {
+    OwnWays x = Check.classOf("y001;y105;k10;t10;t01;");
+    CHECK.due("P26 38 isn't below 38", x.weeks(1, 38, 0, 1), 0);
+    CHECK.due("P26 38 is below 39", x.weeks(1, 39, 0, 1), 1);
+    x.say(0, 0);
+    CHECK.due("P26 38 isn't below 20 and 18", x.weeks(1, 20, 18, 1), 1);
+    CHECK.due("P26 38 is below 20 and 19", x.weeks(1, 20, 19, 1), 0);
+    Check.ints(x, 4, 42, 17);
+    x.slips(0, 17);
+    CHECK.due("P23 17 isn't below 17", x.day(0, 4, 5, 4), 0);
+    x.slips(0, 18);
+    CHECK.due("P23 17 is below 18", x.day(0, 4, 5, 4), 1);
   }
 
   private static void weeksRefusals() {

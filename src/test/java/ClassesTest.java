@@ -116,6 +116,8 @@ public final class ClassesTest {
     fault("y001;y101;t01;t20;y801;", -2014);
     fault("y801;y0", -1007);
     fault("y801;y001;k99;x", -1014);
+    fault("y801;k00;", -2000);
+    fault("y001;k10;t11;k10;", -2005);
   }
 
   private static void roomForStatements() {

@@ -90,6 +90,10 @@ public final class FaceTest {
           Arrays.stream(FACE).noneMatch(named -> named.startsWith(m.getName() + " ")));
       CHECK.holds(c.getName() + "." + m.getName() + " has at most seven parameters", m.getParameterCount() <= 7);
     }
+    Set<String> names = new TreeSet<>();
+    for (Method m : c.getDeclaredMethods()) {
+      CHECK.holds(c.getName() + "." + m.getName() + " is the only one of its name", names.add(m.getName()));
+    }
     for (Field f : c.getDeclaredFields()) {
       CHECK.holds(c.getName() + "." + f.getName() + " is of the object", !Modifier.isStatic(f.getModifiers()));
     }

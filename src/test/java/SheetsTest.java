@@ -345,5 +345,6 @@ public final class SheetsTest {
     CHECK.due("P15 above", x.odds(1, 4, 5, 0), 99);
     CHECK.due("P15 below", x.odds(1, 4, 5, 1), 100);
     CHECK.due("P20 marks", x.luck(0, 4, 1), 12);
+    CHECK.due("P14 of twelve slips each", x.likely(4, 5), 1);
   }
 }

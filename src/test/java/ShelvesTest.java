@@ -45,6 +45,9 @@ public final class ShelvesTest {
     x.put(0, 5, 7);
     x.row(0, 2, 6);
     CHECK.due("P37 0 at first again", x.element(0, 5), 0);
+    x.put(0, 0, 7);
+    x.row(0, 2, 6);
+    CHECK.due("P37 the first one too", x.element(0, 0), 0);
     CHECK.due("P37 no elements", x.row(0, 2, 0), 0);
     CHECK.due("P37 no places", x.put(0, 0, 1), -13);
     CHECK.due("P37 shelf -1", x.row(-1, 0, 1), -1);

@@ -89,6 +89,7 @@ public final class SumsTest {
     CHECK.due("P10 one told", x.parts(5203, 1746, 512), 1);
     CHECK.due("P10 alike", x.parts(5203, 1746, 136), 1);
     CHECK.due("P10 unlike", x.parts(5203, 1746, 6), 2);
+    CHECK.due("P10 the first alone", x.parts(5203, 1746, 1), 1);
     CHECK.due("P10 all alike", x.parts(88, 11, 1023), 1);
     CHECK.due("P10 a way that isn't", x.parts(88, 11, 1024), -1);
     CHECK.due("P10 below 0", x.parts(88, 11, -1), -1);
