@@ -53,6 +53,13 @@ public final class ChildrenTest {
     dayOf(x, 0, 1, 0);
     x.keep(5, 1, 0);
     dayOf(x, 0, 1, 0);
+    CHECK.due("P23 in a way's place", x.cost(5), -12);
+    Check.ints(x, 4, 300, 87);
+    x.row(5, 0, 100);
+    dayOf(x, 2, 1, 0, 213);
+    CHECK.due("P23 ints in the place of bytes", x.put(5, 0, 123456), 0);
+    CHECK.due("P23 ints of any size", x.element(5, 0), 123456);
+    CHECK.due("P23 the sheet stays", x.element(4, 1), 87);
   }
 
   private static void dayInTheSheetsPlace() {

@@ -1,6 +1,40 @@
 /** Calls by name: of the class, and of Model. */
 final class Dispatch {
+  static final long ILLEGAL_ARGUMENT = 1L << 40;
+  static final long ILLEGAL_STATE = 1L << 41;
+
   private Dispatch() {}
+
+  /** What the class answers, or a number that no call answers for what it throws; any other exception goes on. */
+  static long ownAnswer(OwnWays x, String name, int[] a) {
+    try {
+      return own(x, name, a);
+    } catch (IllegalArgumentException e) {
+      return thrown(e, IllegalArgumentException.class, ILLEGAL_ARGUMENT);
+    } catch (IllegalStateException e) {
+      return thrown(e, IllegalStateException.class, ILLEGAL_STATE);
+    }
+  }
+
+  private static long thrown(RuntimeException e, Class<?> due, long answer) {
+    if (e.getClass() != due) {
+      throw e;
+    }
+    return answer;
+  }
+
+  /** What Model answers, in the same numbers. */
+  static long modelAnswer(Model x, String name, int[] a) {
+    try {
+      return model(x, name, a);
+    } catch (Model.Refused refused) {
+      return refused.answer;
+    } catch (IllegalArgumentException e) {
+      return ILLEGAL_ARGUMENT;
+    } catch (IllegalStateException e) {
+      return ILLEGAL_STATE;
+    }
+  }
 
   static long own(OwnWays x, String name, int[] a) {
     switch (name) {

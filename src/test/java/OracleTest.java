@@ -234,31 +234,12 @@ public final class OracleTest {
 
   // ---- both answer
 
-  private static final long ILLEGAL_ARGUMENT = 1L << 40;
-  private static final long ILLEGAL_STATE = 1L << 41;
-
   private void call(String name, int... a) {
     if (calls++ >= CALLS) {
       return;
     }
-    long due;
-    try {
-      due = Dispatch.model(model, name, a);
-    } catch (Model.Refused refused) {
-      due = refused.answer;
-    } catch (IllegalArgumentException e) {
-      due = ILLEGAL_ARGUMENT;
-    } catch (IllegalStateException e) {
-      due = ILLEGAL_STATE;
-    }
-    long got;
-    try {
-      got = Dispatch.own(own, name, a);
-    } catch (IllegalArgumentException e) {
-      got = ILLEGAL_ARGUMENT;
-    } catch (IllegalStateException e) {
-      got = ILLEGAL_STATE;
-    }
+    long due = Dispatch.modelAnswer(model, name, a);
+    long got = Dispatch.ownAnswer(own, name, a);
     CHECK.due("run " + run + ", call " + calls + ": " + name + java.util.Arrays.toString(a), got, due);
   }
 }

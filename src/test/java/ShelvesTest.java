@@ -23,6 +23,7 @@ public final class ShelvesTest {
     x.row(7, 0, 3);
     CHECK.due("P36 in a row's place", x.keep(7, 1, 1), 0);
     CHECK.due("P36 a row no more", x.put(7, 0, 0), -12);
+    CHECK.due("P36 the row's elements are gone", Check.thrownByElement(x, 7, 0), 2);
     x.row(7, 0, 3);
     CHECK.due("P36 nothing in a row's place", x.keep(7, 0, -1), 0);
     CHECK.due("P36 no row", x.put(7, 0, 0), -11);
@@ -50,6 +51,12 @@ public final class ShelvesTest {
     CHECK.due("P37 the first one too", x.element(0, 0), 0);
     CHECK.due("P37 no elements", x.row(0, 2, 0), 0);
     CHECK.due("P37 no places", x.put(0, 0, 1), -13);
+    OwnWays y = Check.classOf("y765;");
+    y.keep(3, 1, 0);
+    CHECK.due("P37 in a way's place", y.row(3, 1, 2), 0);
+    CHECK.due("P37 no way any more", y.cost(3), -12);
+    CHECK.due("P37 no failure any more", y.toss(3), -12);
+    CHECK.due("P37 its elements", y.element(3, 1), 0);
     CHECK.due("P37 shelf -1", x.row(-1, 0, 1), -1);
     CHECK.due("P37 shelf 8", x.row(8, 0, 1), -1);
     CHECK.due("P37 sort -1", x.row(1, -1, 1), -1);
