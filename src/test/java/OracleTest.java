@@ -131,12 +131,15 @@ public final class OracleTest {
       int way = random.nextInt(model.now.ways().size());
       call("row", e, 2, row.cells.length / 2);
       for (int s = 0; s < row.cells.length / 2; s++) {
-        int answer = own.work(way, (int) row.cells[2 * s], (int) row.cells[2 * s + 1]);
-        calls++;
+        int answer = answerOf(way, (int) row.cells[2 * s], (int) row.cells[2 * s + 1]);
         int sort = random.nextInt(12);
         call("put", e, s, sort == 0 ? -1 : sort == 1 ? random.nextInt(10000) : answer);
       }
     }
+  }
+
+  private int answerOf(int way, int a, int b) {
+    return 0 <= b && b <= a && a <= 9999 ? model.answer(model.now.ways().get(way), a, b) : -1;
   }
 
   private void judged(int d) {
@@ -144,8 +147,7 @@ public final class OracleTest {
     int a = sort == 0 ? random.nextInt(128) : minuend();
     int b = random.nextInt(a + 1);
     int n = random.nextInt(8);
-    int answer = model.now.ways().isEmpty() ? 0 : own.work(0, a, b);
-    calls++;
+    int answer = model.now.ways().isEmpty() ? 0 : answerOf(0, a, b);
     call("row", d, sort, n);
     int least = sort == 0 ? -128 : sort == 1 ? -32768 : -2147483648;
     for (int i = 0; i < n; i++) {

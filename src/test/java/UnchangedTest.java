@@ -154,7 +154,8 @@ public final class UnchangedTest {
     Check.bytes(x, 2, "y409;k30;t103;t025;t10;t11;");
     CHECK.due("a text more", x.group(2), 6);
     x.keep(2, 0, 0);
-    CHECK.holds("then it isn't as it was", !Arrays.equals(before, all(x)));
+    CHECK.due("a child holds another way", x.child(0, 0), 0);
+    CHECK.due("ways then", x.count(0), 4);
     CHECK.due("P34 restored", x.restore(), 2);
     CHECK.holds("P34 all is as it was then", Arrays.equals(before, all(x)));
   }
