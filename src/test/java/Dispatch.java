@@ -1,3 +1,5 @@
+import java.util.Arrays;
+
 /** Calls by name: of the class, and of Model. */
 final class Dispatch {
   static final long ILLEGAL_ARGUMENT = 1L << 40;
@@ -33,6 +35,15 @@ final class Dispatch {
       return ILLEGAL_ARGUMENT;
     } catch (IllegalStateException e) {
       return ILLEGAL_STATE;
+    }
+  }
+
+  /** Both answer, and answer alike, unless the document leaves it open. */
+  static void alike(Check check, String run, OwnWays own, Model model, String name, int... a) {
+    long due = modelAnswer(model, name, a);
+    long got = ownAnswer(own, name, a);
+    if (!model.leavesOpen(name, a, due)) {
+      check.due(run + name + Arrays.toString(a), got, due);
     }
   }
 

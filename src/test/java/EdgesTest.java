@@ -1,5 +1,3 @@
-import java.util.Arrays;
-
 /** Every call with every two of its arguments at the edges of what is told and of an int: Model answers alike. */
 public final class EdgesTest {
   private static final Check CHECK = new Check("EdgesTest");
@@ -27,7 +25,7 @@ public final class EdgesTest {
 
     void ask(String name, int... a) {
       calls++;
-      CHECK.due(name + Arrays.toString(a), Dispatch.ownAnswer(own, name, a), Dispatch.modelAnswer(model, name, a));
+      Dispatch.alike(CHECK, "", own, model, name, a);
     }
 
     void fill(int d, int sort, int... values) {

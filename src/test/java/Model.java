@@ -620,6 +620,24 @@ final class Model {
     return -4;
   }
 
+  /** Whether the document can be read in two ways where this call comes to: the answer told here is but one of them. */
+  boolean leavesOpen(String name, int[] a, long told) {
+    switch (name) {
+      case "judge":
+        // Is the least number of the SORT skipped in a place beyond the 4 digits, too?
+        return told > 6 || told == -4 && rowOf(a[1]).cells.length > 6;
+      case "copy":
+        // Is there a place to copy nothing from, or to, behind the last element?
+        return a[4] == 0 && (told == 0 || told == -13) && !(isPlace(a[0], a[1]) && isPlace(a[2], a[3]));
+      default:
+        return false;
+    }
+  }
+
+  private boolean isPlace(int d, int i) {
+    return shelves[d] instanceof Row row && i >= 0 && i < row.cells.length;
+  }
+
   // ---- the image, what is told
 
   int image() {

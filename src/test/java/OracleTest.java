@@ -240,8 +240,6 @@ public final class OracleTest {
     if (calls++ >= CALLS) {
       return;
     }
-    long due = Dispatch.modelAnswer(model, name, a);
-    long got = Dispatch.ownAnswer(own, name, a);
-    CHECK.due("run " + run + ", call " + calls + ": " + name + java.util.Arrays.toString(a), got, due);
+    Dispatch.alike(CHECK, "run " + run + ", call " + calls + ": ", own, model, name, a);
   }
 }

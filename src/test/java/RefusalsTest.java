@@ -187,7 +187,7 @@ public final class RefusalsTest {
     // All rows have one element at least, and four at most.
     int[][] noPlaces = {{-1, 0, 1}, {0, -1, 1}, {0, 0, -1}, {4, 0, 1}, {0, 4, 1}, {0, 0, 5}, {1, 1, 4}, {LEAST, 0, 1},
       {0, LEAST, 1}, {0, 0, LEAST}, {GREATEST, 0, 1}, {0, GREATEST, 1}, {0, 0, GREATEST}, {GREATEST, GREATEST, GREATEST},
-      {1, 0, GREATEST}, {0, 1, GREATEST}, {LEAST, LEAST, LEAST}, {-1, 0, 0}, {0, -1, 0}};
+      {1, 0, GREATEST}, {0, 1, GREATEST}, {LEAST, LEAST, LEAST}};
     for (int d : SHELVES) {
       OwnWays x = school();
       for (int e : SHELVES) {

