@@ -6,9 +6,11 @@ public final class ChildrenTest {
   public static void main(String[] args) {
     day();
     dayInTheSheetsPlace();
+    dayByTheWayHeldNow();
     dayRefusals();
     say();
     bestSaying();
+    bestSayingByTheWaysHeldNow();
     weeks();
     drawsAtTheEdge();
     weeksRefusals();
@@ -69,6 +71,14 @@ public final class ChildrenTest {
     elements("P23 in the sheet's place", x, 5, 925, 9013, 1213, 77, 999, 0);
   }
 
+  private static void dayByTheWayHeldNow() {
+    OwnWays x = Check.classOf("y001;y105;k10;t10;");
+    Check.ints(x, 4, 42, 17);
+    dayOf(x, 0, 1, 0, 35);
+    x.say(0, 0);
+    dayOf(x, 0, 1, 0, 25);
+  }
+
   private static void dayRefusals() {
     OwnWays x = Check.classOf("y001;k050;");
     Check.ints(x, 4, SHEET);
@@ -125,6 +135,16 @@ public final class ChildrenTest {
     Check.ints(x, 4, SHEET);
     x.bestSaying(4);
     CHECK.due("P25 they hold what they held", x.child(0, 0), 1);
+  }
+
+  private static void bestSayingByTheWaysHeldNow() {
+    OwnWays x = Check.classOf("y001;y105;y205;k10;t12;t205;");
+    Check.ints(x, 4, SHEET);
+    CHECK.due("P25 turned about at first", x.bestSaying(4), -4);
+    x.say(0, 0);
+    CHECK.due("P25 nought now", x.bestSaying(4), 5);
+    x.say(0, 5);
+    CHECK.due("P25 rightly now", x.bestSaying(4), -4);
   }
 
   private static void weeks() {

@@ -185,6 +185,15 @@ public final class ClassesTest {
     CHECK.due("P4 held first still", x.child(0, 2), 1);
     CHECK.due("P4 another holds", x.child(1, 0), 0);
     CHECK.due("P4 another's slips", x.child(1, 1), 7);
+    OwnWays y = Check.classOf("y001;y105;y205;k20;k00;k10;t20;t02;");
+    y.say(0, 0);
+    y.say(1, 0);
+    int[] first = {2, 0, 1};
+    int[] then = {0, 2, 1};
+    for (int c = 0; c < 3; c++) {
+      CHECK.due("P4 holds now " + c, y.child(c, 0), then[c]);
+      CHECK.due("P4 held first " + c, y.child(c, 2), first[c]);
+    }
     CHECK.due("P4 child -1", x.child(-1, 0), -1);
     CHECK.due("P4 child 2", x.child(2, 0), -1);
     CHECK.due("P4 what -1", x.child(0, -1), -1);

@@ -156,6 +156,10 @@ public final class ShelvesTest {
       CHECK.due("P40 from " + p[0] + " to " + p[1] + " so many " + p[2], x.copy(1, p[0], 2, p[1], p[2]), -13);
     }
     elements("P40 as it was", x, 2, 7, 8);
+    CHECK.due("P40 a place of the second row alone", x.copy(2, 2, 1, 0, 1), -13);
+    CHECK.due("P40 more than the first row has", x.copy(2, 0, 1, 0, 3), -13);
+    CHECK.due("P40 more than it has from there", x.copy(2, 1, 1, 1, 2), -13);
+    elements("P40 the second row as it was", x, 1, 1, 2, 3);
   }
 
   private static final String ALL_KINDS = "y091;y191;y291;y391;y491;y591;y691;y791;y681;y601;";
